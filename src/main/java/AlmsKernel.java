@@ -148,6 +148,7 @@ public final class AlmsKernel {
         if (!isFrame(frame)) {
             throw new IllegalStateException("the touch is refused");
         }
+        // A frame got by the third or fourth way may have a page still: the new one takes its place.
         pages[frame] = page;
         there[frame] = false;
         states[process] = WAITING;
@@ -452,7 +453,6 @@ public final class AlmsKernel {
         if (loanCount >= MOST_LOANS) {
             throw new IllegalStateException("there were 60 loans");
         }
-        dropPage(frame);
         holders[frame] = borrower;
         loanFrames[loanCount] = frame;
         lenders[loanCount] = lender;
@@ -636,7 +636,7 @@ public final class AlmsKernel {
             if (isComing(frame)) {
                 int track = trackOf(frame);
                 int distance = Math.abs(track - headTrack);
-                if (distance < least || distance == least && track < nearestTrack) {
+                if (distance < least || (distance == least && track < nearestTrack)) {
                     nearest = frame;
                     nearestTrack = track;
                     least = distance;

@@ -37,8 +37,10 @@ public final class PromisesTest {
         faults();
         loansAndInterest();
         sleepAndAlms();
+        sleepDropsWhatComes();
         wakingOrder();
         diskOrder();
+        diskTies();
         diskChoiceStays();
         requests();
         Checks.end();
@@ -396,6 +398,12 @@ public final class PromisesTest {
         // Process 3 has nothing left to lend now.
         Checks.due("7: one that can lend", y.touch(0, 0), 0);
 
+        AlmsKernel penniless = withFrames(0, 2);
+        penniless.sell(1);
+        penniless.buy(0);
+        Checks.due("7: a lender's purse of 0", penniless.purse(0), 0);
+        Checks.due("7: it lends", penniless.touch(1, 0), 0);
+
         // A sleeper that owns and holds a frame lends it.
         AlmsKernel z = oneAsleep();
         z.drop(0);
@@ -457,6 +465,15 @@ public final class PromisesTest {
         x.touch(0, 3);
         x.touch(0, 0);
         Checks.due("7: of the same age the lowest", x.touch(0, 5), 0);
+
+        // A process does not borrow of itself.
+        for (int process = 0; process < 5; process++) {
+            AlmsKernel self = withFrames(process, 1);
+            self.touch(process, 0);
+            self.advance(50);
+            Checks.due("7: its own old page", self.touch(process, 1), 0);
+            Checks.due("7: no loan", self.loans(), 0);
+        }
 
         AlmsKernel none = new AlmsKernel();
         Checks.refused(none, STATE, "7: no way at all", () -> none.touch(0, 0));
@@ -769,6 +786,37 @@ public final class PromisesTest {
         Checks.due("tick: no alms for those who are awake", x.purse(1), 5);
     }
 
+    /** The page that comes is dropped in an own frame too, and of that process alone. */
+    private static void sleepDropsWhatComes() {
+        AlmsKernel x = new AlmsKernel();
+        for (int process = 0; process < 3; process++) {
+            x.buy(process);
+        }
+        x.setRate(0);
+        x.touch(1, 0);
+        x.advance(8);
+        Checks.due("sleep: the loan", x.touch(1, 1), 0);
+        x.advance(1);
+        x.drop(1);
+        Checks.due("sleep: process 1 waits in its own frame", x.touch(1, 7), 1);
+        Checks.due("sleep: so does process 2", x.touch(2, 7), 2);
+        x.setRate(9);
+        x.advance(1);
+        Checks.due("sleep: head()", x.head(), 10);
+        Checks.due("sleep: requests()", x.requests(), 2);
+        x.advance(1);
+        Checks.due("sleep: stateOf(1)", x.stateOf(1), 2);
+        Checks.due("sleep: its frame is empty", x.pageIn(1), -1);
+        Checks.due("sleep: and its own", x.holder(1), 1);
+        Checks.due("sleep: requestAt(0)", x.requestAt(0), 23);
+        Checks.due("sleep: the other waits on", x.stateOf(2), 1);
+        Checks.due("sleep: the head goes to its track", x.head(), 11);
+        x.advance(12);
+        Checks.due("sleep: head()", x.head(), 23);
+        Checks.due("sleep: the other is awake", x.stateOf(2), 0);
+        Checks.due("sleep: no page comes for the sleeper", x.pageIn(1), -1);
+    }
+
     private static void wakingOrder() {
         // Two sleep at the same tick; the givers are the richest then, of several the lowest.
         AlmsKernel x = new AlmsKernel();
@@ -789,6 +837,15 @@ public final class PromisesTest {
         x.advance(1);
         purses("alms: again", x, 36, 36, 20, 5, 5);
         Checks.due("alms: stateOf(4)", x.stateOf(4), 0);
+
+        // One that waits gives too.
+        AlmsKernel w = oneAsleep();
+        w.setWage(4, 9);
+        w.setRate(0);
+        w.touch(4, 7);
+        w.advance(1);
+        Checks.due("alms: it waits", w.stateOf(4), 1);
+        purses("alms: it gives", w, 5, 20, 20, 20, 28);
 
         // With 19 and less nobody gives, and a sleeper sleeps on.
         AlmsKernel y = new AlmsKernel();
@@ -890,6 +947,23 @@ public final class PromisesTest {
         x.advance(1);
         Checks.due("disk: at its track it is done in a tick", x.stateOf(3), 0);
         Checks.due("disk: its age", x.age(2), 1);
+    }
+
+    /** Of two as near the lower track, whatever the order of the frames. */
+    private static void diskTies() {
+        for (int first = 1; first < 3; first++) {
+            AlmsKernel x = new AlmsKernel();
+            x.buy(first);
+            x.buy(3 - first);
+            x.touch(1, 4);
+            x.advance(12);
+            Checks.due("disk: head() at 12", x.head(), 12);
+            x.drop(first == 1 ? 0 : 1);
+            x.touch(1, 0);
+            x.touch(2, 0);
+            x.advance(1);
+            Checks.due("disk: towards 8, not 16", x.head(), 11);
+        }
     }
 
     private static void diskChoiceStays() {
