@@ -1,8 +1,8 @@
 /** For each promise of the document its ordinary calls, its edges and its wrong arguments, by hand. */
 public final class PromisesTest {
-    private static final Class<IndexOutOfBoundsException> INDEX = IndexOutOfBoundsException.class;
-    private static final Class<IllegalArgumentException> ARGUMENT = IllegalArgumentException.class;
-    private static final Class<IllegalStateException> STATE = IllegalStateException.class;
+    private static final Class<IndexOutOfBoundsException> INDEX = Checks.INDEX;
+    private static final Class<IllegalArgumentException> ARGUMENT = Checks.ARGUMENT;
+    private static final Class<IllegalStateException> STATE = Checks.STATE;
     private static final int[] NO_PROCESS = {-1, 5, Integer.MIN_VALUE, Integer.MAX_VALUE};
     private static final int[] NO_FRAME = {-1, 12, Integer.MIN_VALUE, Integer.MAX_VALUE};
 
@@ -46,26 +46,6 @@ public final class PromisesTest {
         Checks.end();
     }
 
-    /** A process that buys so many frames, with what it needs for that and the ticks which that takes. */
-    private static AlmsKernel withFrames(int process, int frames) {
-        AlmsKernel x = new AlmsKernel();
-        if (frames > 2) {
-            x.setWage(process, 9);
-            x.advance(10);
-            x.setWage(process, 0);
-        }
-        for (int i = 0; i < frames; i++) {
-            x.buy(process);
-        }
-        return x;
-    }
-
-    private static void purses(String what, AlmsKernel x, int... want) {
-        for (int process = 0; process < want.length; process++) {
-            Checks.due(what + ": purse(" + process + ")", x.purse(process), want[process]);
-        }
-    }
-
     private static void newObject() {
         AlmsKernel x = new AlmsKernel();
         Checks.due("1: tick()", x.tick(), 0);
@@ -73,7 +53,7 @@ public final class PromisesTest {
         Checks.due("1: head()", x.head(), 0);
         Checks.due("1: loans()", x.loans(), 0);
         Checks.due("1: requests()", x.requests(), 0);
-        purses("1", x, 20, 20, 20, 20, 20);
+        Checks.purses("1", x, 20, 20, 20, 20, 20);
         for (int process = 0; process < 5; process++) {
             Checks.due("1: stateOf", x.stateOf(process), AlmsKernel.AWAKE);
             Checks.due("1: the wage", x.setWage(process, 0), 0);
@@ -104,7 +84,7 @@ public final class PromisesTest {
         Checks.due("2: setWage(4, 3)", x.setWage(4, 3), 9);
         Checks.due("2: setWage(0, 1)", x.setWage(0, 1), 0);
         x.advance(2);
-        purses("2", x, 22, 20, 20, 20, 26);
+        Checks.purses("2", x, 22, 20, 20, 20, 26);
         for (int process : NO_PROCESS) {
             Checks.refused(x, INDEX, "2: setWage(" + process + ", 1)", () -> x.setWage(process, 1));
             Checks.refused(x, INDEX, "2: setWage(" + process + ", 10)", () -> x.setWage(process, 10));
@@ -116,15 +96,15 @@ public final class PromisesTest {
     }
 
     private static void setRate() {
-        AlmsKernel x = withFrames(0, 1);
+        AlmsKernel x = Scenes.withFrames(0, 1);
         Checks.due("3: setRate(9)", x.setRate(9), 1);
         Checks.due("3: setRate(0)", x.setRate(0), 9);
         x.touch(1, 0);
         x.advance(3);
-        purses("3: a rate of 0", x, 12, 20);
+        Checks.purses("3: a rate of 0", x, 12, 20);
         x.setRate(4);
         x.advance(2);
-        purses("3: a loan costs the rate of its tick", x, 20, 12);
+        Checks.purses("3: a loan costs the rate of its tick", x, 20, 12);
         for (int rate : new int[] {-1, 10, Integer.MIN_VALUE, Integer.MAX_VALUE}) {
             Checks.refused(x, ARGUMENT, "3: setRate(" + rate + ")", () -> x.setRate(rate));
         }
@@ -156,35 +136,12 @@ public final class PromisesTest {
         }
         Checks.refused(poor, STATE, "4: buy(0) when no frame is free", () -> poor.buy(0));
 
-        AlmsKernel asleep = oneAsleep();
+        AlmsKernel asleep = Scenes.oneAsleep();
         Checks.refused(asleep, STATE, "4: buy of a sleeper", () -> asleep.buy(0));
     }
 
-    /**
-     * Process 0 sleeps with 4 in its purse: at the rate 9 it could not pay for frame 1, which it had
-     * borrowed of process 1. It owns frame 0, in which its page 0 is; frame 1 is empty again.
-     */
-    private static AlmsKernel oneAsleep() {
-        AlmsKernel x = new AlmsKernel();
-        x.setRate(0);
-        x.buy(0);
-        x.buy(1);
-        x.touch(0, 0);
-        x.advance(1);
-        Checks.due("asleep: the loan", x.touch(0, 1), 1);
-        x.advance(1);
-        x.setRate(9);
-        x.advance(1);
-        Checks.due("asleep: not yet", x.stateOf(0), 0);
-        purses("asleep: not yet", x, 3, 21, 20, 20, 20);
-        x.advance(1);
-        Checks.due("asleep: stateOf(0)", x.stateOf(0), 2);
-        purses("asleep: alms at the same tick", x, 4, 20, 20, 20, 20);
-        return x;
-    }
-
     private static void sell() {
-        AlmsKernel x = withFrames(0, 2);
+        AlmsKernel x = Scenes.withFrames(0, 2);
         Checks.due("5: sell(1)", x.sell(1), 8);
         Checks.due("5: owner(1)", x.owner(1), -1);
         Checks.due("5: holder(1)", x.holder(1), -1);
@@ -204,18 +161,18 @@ public final class PromisesTest {
         for (int frame : NO_FRAME) {
             Checks.refused(x, INDEX, "5: sell(" + frame + ")", () -> x.sell(frame));
         }
-        AlmsKernel waiting = withFrames(0, 2);
+        AlmsKernel waiting = Scenes.withFrames(0, 2);
         waiting.touch(0, 5);
         Checks.due("5: sell of one that waits", waiting.sell(1), 8);
 
-        AlmsKernel lent = withFrames(0, 1);
+        AlmsKernel lent = Scenes.withFrames(0, 1);
         lent.touch(1, 0);
         lent.advance(8);
         lent.drop(0);
         Checks.due("5: lent and empty", lent.pageIn(0), -1);
         Checks.refused(lent, STATE, "5: sell of a lent frame", () -> lent.sell(0));
 
-        AlmsKernel asleep = oneAsleep();
+        AlmsKernel asleep = Scenes.oneAsleep();
         Checks.due("5: drop of a sleeper", asleep.drop(0), 0);
         Checks.refused(asleep, STATE, "5: sell of a sleeper", () -> asleep.sell(0));
         asleep.advance(1);
@@ -223,7 +180,7 @@ public final class PromisesTest {
     }
 
     private static void drop() {
-        AlmsKernel x = withFrames(0, 1);
+        AlmsKernel x = Scenes.withFrames(0, 1);
         Checks.refused(x, STATE, "6: drop of a free frame", () -> x.drop(1));
         Checks.refused(x, STATE, "6: drop of an empty frame", () -> x.drop(0));
         x.touch(0, 2);
@@ -245,7 +202,7 @@ public final class PromisesTest {
     }
 
     private static void touchHits() {
-        AlmsKernel x = withFrames(0, 2);
+        AlmsKernel x = Scenes.withFrames(0, 2);
         Checks.due("7: touch(0, 3)", x.touch(0, 3), 0);
         Checks.refused(x, STATE, "7: touch while waiting", () -> x.touch(0, 3));
         x.advance(4);
@@ -263,7 +220,7 @@ public final class PromisesTest {
     }
 
     private static void touchOwnEmptyFrames() {
-        AlmsKernel x = withFrames(0, 4);
+        AlmsKernel x = Scenes.withFrames(0, 4);
         Checks.due("7: the lowest empty", x.touch(0, 7), 0);
         x.advance(7);
         Checks.due("7: the next", x.touch(0, 6), 1);
@@ -275,7 +232,7 @@ public final class PromisesTest {
         Checks.due("7: it has no age", x.age(0), -1);
 
         // A borrowed empty frame is one that it holds, too; a lent one is not.
-        AlmsKernel y = withFrames(0, 1);
+        AlmsKernel y = Scenes.withFrames(0, 1);
         y.setRate(0);
         y.touch(1, 0);
         y.advance(8);
@@ -289,7 +246,7 @@ public final class PromisesTest {
     }
 
     private static void touchCallsIn() {
-        AlmsKernel x = withFrames(0, 3);
+        AlmsKernel x = Scenes.withFrames(0, 3);
         x.setRate(0);
         x.touch(1, 0);
         x.touch(2, 0);
@@ -306,7 +263,7 @@ public final class PromisesTest {
         Checks.due("7: lent(0)", x.lent(0), 2);
 
         // The loan with the lowest number is passed over while its page is coming.
-        AlmsKernel y = withFrames(0, 2);
+        AlmsKernel y = Scenes.withFrames(0, 2);
         y.setRate(0);
         y.touch(1, 7);
         y.touch(2, 0);
@@ -324,7 +281,7 @@ public final class PromisesTest {
         Checks.due("7: nothing borrowed", y.loans(), 2);
 
         // Calling in goes before borrowing.
-        AlmsKernel z = withFrames(0, 1);
+        AlmsKernel z = Scenes.withFrames(0, 1);
         z.setRate(0);
         z.touch(1, 0);
         z.advance(8);
@@ -334,7 +291,7 @@ public final class PromisesTest {
     }
 
     private static void touchBorrows() {
-        AlmsKernel x = withFrames(0, 3);
+        AlmsKernel x = Scenes.withFrames(0, 3);
         x.setRate(0);
         x.touch(0, 0);
         x.advance(10);
@@ -347,7 +304,7 @@ public final class PromisesTest {
         Checks.due("7: partiesOf(2)", x.partiesOf(2), 3);
         Checks.refused(x, STATE, "7: no frame is left", () -> x.touch(4, 0));
 
-        AlmsKernel young = withFrames(0, 1);
+        AlmsKernel young = Scenes.withFrames(0, 1);
         young.touch(0, 0);
         Checks.refused(young, STATE, "7: a page that is coming is not lent", () -> young.touch(1, 0));
         young.advance(5);
@@ -360,7 +317,7 @@ public final class PromisesTest {
         Checks.due("7: the age 5 is old enough", young.touch(1, 0), 0);
 
         // Of the old pages the oldest, of several the lowest.
-        AlmsKernel old = withFrames(0, 3);
+        AlmsKernel old = Scenes.withFrames(0, 3);
         old.setRate(0);
         old.touch(0, 0);
         old.advance(1);
@@ -398,14 +355,14 @@ public final class PromisesTest {
         // Process 3 has nothing left to lend now.
         Checks.due("7: one that can lend", y.touch(0, 0), 0);
 
-        AlmsKernel penniless = withFrames(0, 2);
+        AlmsKernel penniless = Scenes.withFrames(0, 2);
         penniless.sell(1);
         penniless.buy(0);
         Checks.due("7: a lender's purse of 0", penniless.purse(0), 0);
         Checks.due("7: it lends", penniless.touch(1, 0), 0);
 
         // A sleeper that owns and holds a frame lends it.
-        AlmsKernel z = oneAsleep();
+        AlmsKernel z = Scenes.oneAsleep();
         z.drop(0);
         z.setRate(2);
         Checks.due("7: purse(1) is the greatest with a frame", z.touch(2, 0), 1);
@@ -413,7 +370,7 @@ public final class PromisesTest {
         Checks.due("7: partiesOf(2)", z.partiesOf(2), 3);
 
         // The purse has to be the rate or more.
-        AlmsKernel poor = withFrames(0, 1);
+        AlmsKernel poor = Scenes.withFrames(0, 1);
         poor.buy(1);
         poor.touch(1, 0);
         poor.buy(2);
@@ -432,7 +389,7 @@ public final class PromisesTest {
     }
 
     private static void touchBorrowsAtMostThree() {
-        AlmsKernel x = withFrames(0, 4);
+        AlmsKernel x = Scenes.withFrames(0, 4);
         x.setRate(0);
         for (int page = 0; page < 3; page++) {
             Checks.due("7: loan " + page, x.touch(1, page), page);
@@ -450,7 +407,7 @@ public final class PromisesTest {
     }
 
     private static void touchTakesTheOldest() {
-        AlmsKernel x = withFrames(0, 3);
+        AlmsKernel x = Scenes.withFrames(0, 3);
         x.touch(0, 0);
         x.advance(1);
         x.touch(0, 1);
@@ -468,7 +425,7 @@ public final class PromisesTest {
 
         // A process does not borrow of itself.
         for (int process = 0; process < 5; process++) {
-            AlmsKernel self = withFrames(process, 1);
+            AlmsKernel self = Scenes.withFrames(process, 1);
             self.touch(process, 0);
             self.advance(50);
             Checks.due("7: its own old page", self.touch(process, 1), 0);
@@ -481,7 +438,7 @@ public final class PromisesTest {
     }
 
     private static void touchWrong() {
-        AlmsKernel x = withFrames(0, 1);
+        AlmsKernel x = Scenes.withFrames(0, 1);
         x.touch(0, 0);
         for (int process : NO_PROCESS) {
             Checks.refused(x, INDEX, "7: touch(" + process + ", 0)", () -> x.touch(process, 0));
@@ -490,13 +447,13 @@ public final class PromisesTest {
             Checks.refused(x, INDEX, "7: touch(0, " + page + ") while it waits", () -> x.touch(0, page));
             Checks.refused(x, INDEX, "7: touch(1, " + page + ")", () -> x.touch(1, page));
         }
-        AlmsKernel asleep = oneAsleep();
+        AlmsKernel asleep = Scenes.oneAsleep();
         Checks.refused(asleep, STATE, "7: touch of a sleeper, of a page that is there", () -> asleep.touch(0, 0));
         Checks.refused(asleep, STATE, "7: touch of a sleeper", () -> asleep.touch(0, 1));
     }
 
     private static void touchAtSixtyLoans() {
-        AlmsKernel x = withFrames(0, 1);
+        AlmsKernel x = Scenes.withFrames(0, 1);
         x.setRate(0);
         x.buy(1);
         x.touch(1, 0);
@@ -524,7 +481,7 @@ public final class PromisesTest {
     }
 
     private static void payBack() {
-        AlmsKernel x = withFrames(3, 2);
+        AlmsKernel x = Scenes.withFrames(3, 2);
         Checks.refused(x, INDEX, "8: payBack(0) before any loan", () -> x.payBack(0));
         x.setRate(0);
         x.touch(1, 0);
@@ -574,7 +531,7 @@ public final class PromisesTest {
     }
 
     private static void ownerAndHolders() {
-        AlmsKernel x = withFrames(2, 2);
+        AlmsKernel x = Scenes.withFrames(2, 2);
         x.touch(4, 1);
         Checks.due("11: owner(0)", x.owner(0), 2);
         Checks.due("12: holder(0)", x.holder(0), 4);
@@ -600,7 +557,7 @@ public final class PromisesTest {
     }
 
     private static void pageInAndAge() {
-        AlmsKernel x = withFrames(0, 2);
+        AlmsKernel x = Scenes.withFrames(0, 2);
         x.advance(3);
         x.touch(0, 4);
         Checks.due("14: coming", x.pageIn(0), 4);
@@ -627,7 +584,7 @@ public final class PromisesTest {
     }
 
     private static void freeAndOwns() {
-        AlmsKernel x = withFrames(1, 5);
+        AlmsKernel x = Scenes.withFrames(1, 5);
         x.buy(0);
         Checks.due("16: free()", x.free(), 6);
         Checks.due("17: owns(1)", x.owns(1), 5);
@@ -646,7 +603,7 @@ public final class PromisesTest {
     }
 
     private static void borrowedAndLent() {
-        AlmsKernel x = withFrames(1, 4);
+        AlmsKernel x = Scenes.withFrames(1, 4);
         x.setRate(0);
         x.touch(0, 0);
         x.touch(2, 0);
@@ -667,20 +624,20 @@ public final class PromisesTest {
     }
 
     private static void stateOfAndPurse() {
-        AlmsKernel x = withFrames(0, 1);
+        AlmsKernel x = Scenes.withFrames(0, 1);
         Checks.due("20: AWAKE", x.stateOf(0), 0);
         x.touch(0, 2);
         x.advance(1);
         Checks.due("20: WAITING", x.stateOf(0), 1);
         x.advance(1);
         Checks.due("20: AWAKE", x.stateOf(0), 0);
-        Checks.due("20: ASLEEP", oneAsleep().stateOf(0), 2);
+        Checks.due("20: ASLEEP", Scenes.oneAsleep().stateOf(0), 2);
         Checks.due("21: purse(0)", x.purse(0), 12);
         x.touch(0, 7);
         x.setWage(0, 2);
         x.advance(1);
         Checks.due("21: one that waits has its wage", x.purse(0), 14);
-        AlmsKernel asleep = oneAsleep();
+        AlmsKernel asleep = Scenes.oneAsleep();
         asleep.setWage(0, 9);
         asleep.sell(1);
         Checks.due("21: purse(1)", asleep.purse(1), 24);
@@ -695,7 +652,7 @@ public final class PromisesTest {
     }
 
     private static void faults() {
-        AlmsKernel x = withFrames(0, 1);
+        AlmsKernel x = Scenes.withFrames(0, 1);
         x.touch(4, 7);
         Checks.due("22: a fault counts when it begins", x.faults(4), 1);
         x.advance(21);
@@ -714,7 +671,7 @@ public final class PromisesTest {
     }
 
     private static void loansAndInterest() {
-        AlmsKernel x = withFrames(2, 2);
+        AlmsKernel x = Scenes.withFrames(2, 2);
         x.touch(0, 0);
         x.setRate(3);
         x.touch(1, 0);
@@ -726,7 +683,7 @@ public final class PromisesTest {
         x.advance(2);
         Checks.due("26: interest(0)", x.interest(0), 6);
         Checks.due("26: interest(1)", x.interest(1), 6);
-        purses("26", x, 14, 14, 16);
+        Checks.purses("26", x, 14, 14, 16);
         x.payBack(0);
         x.advance(2);
         Checks.due("23: an ended loan counts", x.loans(), 2);
@@ -743,7 +700,7 @@ public final class PromisesTest {
 
     private static void sleepAndAlms() {
         // Process 1 pays for two loans; with 3 in its purse at the rate 2 it pays the first alone.
-        AlmsKernel x = withFrames(0, 3);
+        AlmsKernel x = Scenes.withFrames(0, 3);
         x.buy(1);
         x.touch(1, 0);
         x.advance(8);
@@ -826,26 +783,26 @@ public final class PromisesTest {
         x.touch(3, 0);
         x.touch(4, 0);
         x.advance(2);
-        purses("alms: before", x, 40, 20, 20, 2, 2);
+        Checks.purses("alms: before", x, 40, 20, 20, 2, 2);
         x.setWage(1, 9);
         x.advance(1);
-        purses("alms: the richest gives, twice", x, 38, 29, 20, 3, 3);
+        Checks.purses("alms: the richest gives, twice", x, 38, 29, 20, 3, 3);
         x.advance(1);
-        purses("alms: of equal ones the lowest, then the other", x, 37, 37, 20, 4, 4);
+        Checks.purses("alms: of equal ones the lowest, then the other", x, 37, 37, 20, 4, 4);
         Checks.due("alms: stateOf(3)", x.stateOf(3), 2);
         x.setWage(1, 0);
         x.advance(1);
-        purses("alms: again", x, 36, 36, 20, 5, 5);
+        Checks.purses("alms: again", x, 36, 36, 20, 5, 5);
         Checks.due("alms: stateOf(4)", x.stateOf(4), 0);
 
         // One that waits gives too.
-        AlmsKernel w = oneAsleep();
+        AlmsKernel w = Scenes.oneAsleep();
         w.setWage(4, 9);
         w.setRate(0);
         w.touch(4, 7);
         w.advance(1);
         Checks.due("alms: it waits", w.stateOf(4), 1);
-        purses("alms: it gives", w, 5, 20, 20, 20, 28);
+        Checks.purses("alms: it gives", w, 5, 20, 20, 20, 28);
 
         // With 19 and less nobody gives, and a sleeper sleeps on.
         AlmsKernel y = new AlmsKernel();
@@ -854,7 +811,7 @@ public final class PromisesTest {
             y.buy(process);
             y.buy(process);
         }
-        purses("alms: all are poor", y, 12, 4, 4, 4, 4);
+        Checks.purses("alms: all are poor", y, 12, 4, 4, 4, 4);
         y.touch(1, 0);
         y.advance(10);
         y.touch(1, 1);
@@ -863,19 +820,19 @@ public final class PromisesTest {
         Checks.due("alms: a loan", y.loans(), 1);
         y.advance(5);
         Checks.due("alms: asleep", y.stateOf(1), 2);
-        purses("alms: nobody gives", y, 16, 0, 4, 4, 4);
+        Checks.purses("alms: nobody gives", y, 16, 0, 4, 4, 4);
         y.setWage(0, 3);
         y.advance(1);
-        purses("alms: 19 are too few", y, 19, 0);
+        Checks.purses("alms: 19 are too few", y, 19, 0);
         y.setWage(0, 1);
         y.advance(1);
-        purses("alms: 20 are enough", y, 19, 1);
+        Checks.purses("alms: 20 are enough", y, 19, 1);
         y.setWage(0, 0);
         y.advance(1);
-        purses("alms: 19 are too few again", y, 19, 1);
+        Checks.purses("alms: 19 are too few again", y, 19, 1);
         y.setWage(0, 1);
         y.advance(4);
-        purses("alms: until it wakes", y, 19, 5);
+        Checks.purses("alms: until it wakes", y, 19, 5);
         Checks.due("alms: awake", y.stateOf(1), 0);
         wakingByInterest();
     }
@@ -899,18 +856,18 @@ public final class PromisesTest {
         x.buy(0);
         x.sell(5);
         x.buy(0);
-        purses("interest: all are poor", x, 0, 12, 12, 12, 12);
+        Checks.purses("interest: all are poor", x, 0, 12, 12, 12, 12);
         x.setRate(2);
         x.advance(1);
         Checks.due("interest: asleep", x.stateOf(0), 2);
         Checks.due("interest: what it borrowed is given back", x.lasts(0) ? 1 : 0, 0);
         Checks.due("interest: what it lent is not", x.lasts(1));
-        purses("interest: paid to a sleeper", x, 2, 12, 10, 12, 12);
+        Checks.purses("interest: paid to a sleeper", x, 2, 12, 10, 12, 12);
         x.advance(1);
         Checks.due("interest: still asleep", x.stateOf(0), 2);
         x.advance(1);
         Checks.due("interest: awake", x.stateOf(0), 0);
-        purses("interest: nobody gave", x, 6, 12, 6, 12, 12);
+        Checks.purses("interest: nobody gave", x, 6, 12, 6, 12, 12);
     }
 
     private static void diskOrder() {
@@ -995,7 +952,7 @@ public final class PromisesTest {
         Checks.due("disk: then 13", x.stateOf(1), 0);
 
         // A chosen request that is dropped is chosen no more, though the same page is asked for again.
-        AlmsKernel y = withFrames(0, 2);
+        AlmsKernel y = Scenes.withFrames(0, 2);
         y.touch(4, 7);
         y.advance(21);
         Checks.due("disk: process 4 sleeps", y.stateOf(4), 2);
@@ -1010,7 +967,7 @@ public final class PromisesTest {
     }
 
     private static void requests() {
-        AlmsKernel x = withFrames(1, 2);
+        AlmsKernel x = Scenes.withFrames(1, 2);
         Checks.due("28: requests()", x.requests(), 0);
         Checks.due("29: requestAt(0)", x.requestAt(0), -1);
         x.buy(0);

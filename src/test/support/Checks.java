@@ -1,7 +1,16 @@
 import java.util.function.IntSupplier;
+import java.util.function.Supplier;
+import java.util.function.ToIntFunction;
 
 /** Counts the answers that are not as due, and ends the test with exit code 1 if there was one. */
 final class Checks {
+    static final Class<IndexOutOfBoundsException> INDEX = IndexOutOfBoundsException.class;
+    static final Class<IllegalArgumentException> ARGUMENT = IllegalArgumentException.class;
+    static final Class<IllegalStateException> STATE = IllegalStateException.class;
+    /** Enough ticks for the head to go from one end of the disk to the other. */
+    private static final int TICKS_LATER = 45;
+    private static final int LAST_TICK = 50000;
+
     private static int done = 0;
     private static int wrong = 0;
 
@@ -28,11 +37,49 @@ final class Checks {
         due(what, got ? 1 : 0, 1);
     }
 
+    static void dueNot(String what, boolean got) {
+        due(what, got ? 1 : 0, 0);
+    }
+
     /** The call throws exactly this exception, and changes nothing. */
     static void refused(AlmsKernel kernel, Class<? extends RuntimeException> want, String what, IntSupplier call) {
         String before = snapshot(kernel);
         due(what, answer(call), "throws " + want.getSimpleName());
         due("after the refused " + what + " the state", snapshot(kernel), before);
+    }
+
+    /**
+     * The call throws exactly this exception, and changes nothing, not even what the kernel does not tell at
+     * once (wages, the rate, which request is chosen): a twin that was made alike and not called so tells the
+     * same, then and at each tick that comes.
+     */
+    static void refused(Class<? extends RuntimeException> want, String what, Supplier<AlmsKernel> made,
+            ToIntFunction<AlmsKernel> call) {
+        AlmsKernel called = made.get();
+        AlmsKernel twin = made.get();
+        refused(called, want, what, () -> call.applyAsInt(called));
+        sameLater("after the refused " + what, called, twin);
+    }
+
+    /** Two kernels tell the same at each tick that comes, and have the same wages and the same rate. */
+    static void sameLater(String what, AlmsKernel called, AlmsKernel twin) {
+        due(what + ", the state", snapshot(called), snapshot(twin));
+        for (int later = 1; later <= TICKS_LATER && twin.tick() < LAST_TICK; later++) {
+            called.advance(1);
+            twin.advance(1);
+            due(what + ", the state " + later + " later", snapshot(called), snapshot(twin));
+        }
+        for (int process = 0; process < 5; process++) {
+            due(what + ", the wage of " + process, called.setWage(process, 0), twin.setWage(process, 0));
+        }
+        due(what + ", the rate", called.setRate(0), twin.setRate(0));
+    }
+
+    /** The purses of the processes 0 and up. */
+    static void purses(String what, AlmsKernel x, int... want) {
+        for (int process = 0; process < want.length; process++) {
+            due(what + ", purse(" + process + ")", x.purse(process), want[process]);
+        }
     }
 
     /** The answer as a text, or the name of what the call throws. */
