@@ -274,7 +274,7 @@ public final class TickBoundariesTest {
         }
         Checks.due(name + "the frame of another", x.holder(2), 3);
 
-        AlmsKernel lender = sleepingLender();
+        AlmsKernel lender = Scenes.sleepingLender();
         Checks.due("Promise 9, step 2: not those of which it is the lender", lender.lasts(1));
         Checks.due("Promise 9, step 2: the holder of what it lent", lender.holder(1), 2);
         Checks.dueNot(name + "of the lender", lender.lasts(0));
@@ -295,34 +295,6 @@ public final class TickBoundariesTest {
         Checks.due(name + "that of the frame is another's now", ended.holder(0), 2);
         Checks.due(name + "and its page is there", ended.pageIn(0), 3);
         Checks.due(name + "the other's loan lasts", ended.lasts(1));
-    }
-
-    /**
-     * Process 1 sleeps with 1 in its purse, as it could not pay for the loan 0 of frame 0; it is the lender of
-     * the loan 1, of its frame 1 to process 2, who has 15. No other has 20. The rate is 0.
-     */
-    private static AlmsKernel sleepingLender() {
-        AlmsKernel x = Scenes.withoutGivers();
-        x.buy(0);
-        x.touch(1, 7);
-        x.buy(1);
-        x.touch(2, 7);
-        x.setRate(8);
-        x.advance(1);
-        Checks.purses("scene: each has paid 8", x, 16, 8, 8);
-        x.setRate(0);
-        x.setWage(2, 8);
-        x.advance(1);
-        x.setWage(2, 0);
-        // At the rate 9 process 1 sleeps with 8, and gets 9 then: so it wakes at once. Thus it buys first.
-        x.buy(1);
-        Checks.due("scene: it has nothing", x.purse(1), 0);
-        x.setRate(1);
-        x.advance(1);
-        Checks.due("scene: it sleeps", x.stateOf(1), SLEEPER);
-        Checks.purses("scene: it has the interest of its own loan", x, 16, 1, 15);
-        x.setRate(0);
-        return x;
     }
 
     private static void step2APageThatIsComingIsDropped() {
@@ -359,7 +331,7 @@ public final class TickBoundariesTest {
         highest.setRate(5);
         highest.advance(1);
         Checks.due(name + "in its own frame, the highest", highest.pageIn(11), AlmsKernel.NONE);
-        AlmsKernel lender = sleepingLender();
+        AlmsKernel lender = Scenes.sleepingLender();
         Checks.due(name + "not that in a frame which it has lent", lender.pageIn(1), 7);
         Checks.due(name + "its request stays", lender.requestAt(0), 23);
         Checks.due(name + "its process waits on", lender.stateOf(2), AlmsKernel.WAITING);
@@ -392,7 +364,7 @@ public final class TickBoundariesTest {
         waiting.touch(0, 7);
         waiting.advance(1);
         Checks.due(name + "a lender that waits", waiting.purse(0), 9);
-        AlmsKernel asleep = sleepingLender();
+        AlmsKernel asleep = Scenes.sleepingLender();
         asleep.setRate(3);
         asleep.advance(1);
         Checks.purses(name + "a lender that sleeps", asleep, 16, 4, 12);
@@ -444,24 +416,9 @@ public final class TickBoundariesTest {
         Checks.purses(name + "of one that waits", x, 13, 4, 24, 32, 25);
     }
 
-    /**
-     * At the rate 9 process a falls asleep with 8, and gets twice 9 in the same tick from the processes b and c;
-     * process d falls asleep with 4. No other process has 20.
-     */
+    /** At the rate 9 process a has fallen asleep with 8, and had twice 9 then; process d has fallen asleep with 4. */
     private static AlmsKernel richSleeper(int a, int b, int c, int d) {
-        AlmsKernel x = Scenes.withoutGivers();
-        x.setRate(0);
-        x.buy(0);
-        Scenes.bringPurse(x, a, 32);
-        Scenes.bringPurse(x, d, 4);
-        Checks.due("scene: a borrows of process 0", x.touch(a, 7), 0);
-        for (int frame = 1; frame <= 3; frame++) {
-            x.buy(a);
-        }
-        Checks.due("scene: b borrows of a", x.touch(b, 7), 1);
-        Checks.due("scene: c borrows of a", x.touch(c, 7), 2);
-        Checks.due("scene: d borrows of a", x.touch(d, 7), 3);
-        x.setRate(9);
+        AlmsKernel x = Scenes.beforeRichSleeper(a, b, c, d);
         x.advance(1);
         Checks.due("scene: b and c have paid", x.purse(b) + x.purse(c), 14);
         return x;
@@ -520,7 +477,7 @@ public final class TickBoundariesTest {
         alone.advance(20);
         Checks.due(name + "4 is not, without alms", alone.stateOf(1), SLEEPER);
         for (int rate = 3; rate <= 5; rate++) {
-            AlmsKernel lender = sleepingLender();
+            AlmsKernel lender = Scenes.sleepingLender();
             lender.setRate(rate);
             lender.advance(1);
             Checks.due(name + "of 1 and the interest " + rate, lender.purse(1), 1 + rate);

@@ -114,6 +114,67 @@ final class Scenes {
     }
 
     /**
+     * Process 1 sleeps with 1 in its purse, as it could not pay for the loan 0 of frame 0; it is the lender of
+     * the loan 1, of its frame 1 to process 2, who has 15. No other has 20. The rate is 0.
+     */
+    static AlmsKernel sleepingLender() {
+        AlmsKernel x = withoutGivers();
+        x.buy(0);
+        x.touch(1, 7);
+        x.buy(1);
+        x.touch(2, 7);
+        x.setRate(8);
+        x.advance(1);
+        Checks.purses("scene: each has paid 8", x, 16, 8, 8);
+        x.setRate(0);
+        x.setWage(2, 8);
+        x.advance(1);
+        x.setWage(2, 0);
+        // At the rate 9 process 1 sleeps with 8, and gets 9 then: so it wakes at once. Thus it buys first.
+        x.buy(1);
+        Checks.due("scene: it has nothing", x.purse(1), 0);
+        x.setRate(1);
+        x.advance(1);
+        Checks.due("scene: it sleeps", x.stateOf(1), AlmsKernel.ASLEEP);
+        Checks.purses("scene: it has the interest of its own loan", x, 16, 1, 15);
+        x.setRate(0);
+        return x;
+    }
+
+    /**
+     * At the next tick, at the rate 9, process a will fall asleep with 8, and get twice 9 of the processes b and c;
+     * process d will fall asleep with 4. No other process has 20.
+     */
+    static AlmsKernel beforeRichSleeper(int a, int b, int c, int d) {
+        AlmsKernel x = withoutGivers();
+        x.setRate(0);
+        x.buy(0);
+        bringPurse(x, a, 32);
+        bringPurse(x, d, 4);
+        Checks.due("scene: a borrows of process 0", x.touch(a, 7), 0);
+        for (int frame = 1; frame <= 3; frame++) {
+            x.buy(a);
+        }
+        Checks.due("scene: b borrows of a", x.touch(b, 7), 1);
+        Checks.due("scene: c borrows of a", x.touch(c, 7), 2);
+        Checks.due("scene: d borrows of a", x.touch(d, 7), 3);
+        x.setRate(9);
+        return x;
+    }
+
+    /** Process 1 has nothing, and waits for its page 7 in frame 0, which it has borrowed. Nobody gives alms. */
+    static AlmsKernel poorBorrower() {
+        AlmsKernel x = withoutGivers();
+        bringPurse(x, 1, 8);
+        x.buy(0);
+        x.setRate(8);
+        Checks.due("scene: the loan", x.touch(1, 7), 0);
+        x.advance(1);
+        Checks.due("scene: it has nothing", x.purse(1), 0);
+        return x;
+    }
+
+    /**
      * Much at once: process 0 waits in its frame 5 and lends frame 0 to process 2 by the loan 2; process 1
      * sleeps; process 2 is awake with the page 0 in its frame 2 and the page 1 in frame 0; the processes 3
      * and 4 wait in their frames; the loans 0 and 1 have ended. The request of process 3 is chosen, though
