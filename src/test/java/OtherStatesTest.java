@@ -70,11 +70,7 @@ public final class OtherStatesTest {
 
     private static void promise7AHitCostsNothing() {
         String name = "Promise 7, a page that is there: ";
-        AlmsKernel x = Scenes.afterLoans(0);
-        Scenes.bringPurse(x, 1, 8);
-        Scenes.fetch(x, 1, 0);
-        x.buy(1);
-        x.setRate(9);
+        AlmsKernel x = borrowerWithNothing();
         Checks.due(name + "in a borrowed frame, with nothing at the rate 9", x.touch(1, 0), AlmsKernel.NONE);
         Checks.purses(name + "nobody pays", x, 12, 0);
         x.setRate(0);
@@ -84,6 +80,16 @@ public final class OtherStatesTest {
         Checks.due(name + "way 4 with nothing", x.touch(1, 2), 0);
         Checks.purses(name + "nobody pays for a fault", x, 12, 0);
         Checks.due(name + "nor is that interest", x.interest(0), 0);
+    }
+
+    /** Process 1 has nothing but its own frame 1, and its page 0 in frame 0 of process 0; the rate is 9. */
+    private static AlmsKernel borrowerWithNothing() {
+        AlmsKernel x = Scenes.afterLoans(0);
+        Scenes.bringPurse(x, 1, 8);
+        Scenes.fetch(x, 1, 0);
+        x.buy(1);
+        x.setRate(9);
+        return x;
     }
 
     private static void promise7Way2() {
@@ -163,11 +169,7 @@ public final class OtherStatesTest {
 
     private static void promise8OfOneWithNothing() {
         String name = "Promise 8, 'A borrower pays a loan back', with nothing in its purse: ";
-        AlmsKernel x = Scenes.afterLoans(0);
-        Scenes.bringPurse(x, 1, 8);
-        Scenes.fetch(x, 1, 0);
-        x.buy(1);
-        x.setRate(9);
+        AlmsKernel x = borrowerWithNothing();
         Checks.due(name + "payBack", x.payBack(0), 0);
         Checks.purses(name + "nobody pays", x, 12, 0);
         Checks.due(name + "no interest", x.interest(0), 0);
