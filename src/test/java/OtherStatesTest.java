@@ -16,7 +16,9 @@ public final class OtherStatesTest {
         promise7Way2();
         promise7Way3OfOneThatWaits();
         promise7Way3OfASleeper();
+        promise7InAFrameOfASleeper();
         promise8ToASleeper();
+        promise8ToOneWithNothing();
         promise8OfOneWithNothing();
         promise9Step2AnEmptyFrameCostsToo();
         promise9Step2TheOrderOfNumbers();
@@ -155,6 +157,24 @@ public final class OtherStatesTest {
         return x;
     }
 
+    private static void promise7InAFrameOfASleeper() {
+        AlmsKernel x = Scenes.sleepingLender();
+        Scenes.untilAwake(x, 2);
+        x.advance(1);
+        Checks.due("scene: the page came a tick before the last", x.age(1), 2);
+        Checks.due("Promise 7, a page that is there, in a frame of a sleeper", x.touch(2, 7), AlmsKernel.NONE);
+        Checks.due("Promise 15, 'touched last', in a frame of a sleeper", x.age(1), 0);
+        Scenes.bringPurse(x, 2, 8);
+        x.setRate(9);
+        Checks.due("Promise 7, way 4, in a frame of a sleeper", x.touch(2, 6), 1);
+        x.setRate(0);
+        Scenes.untilAwake(x, 2);
+        x.drop(1);
+        Checks.due("Promise 7, way 1, in a frame of a sleeper", x.touch(2, 5), 1);
+        Checks.due("Promise 7: it sleeps on", x.stateOf(1), ASLEEP);
+        Checks.due("Promise 7: no other loan", x.loans(), 2);
+    }
+
     private static void promise8ToASleeper() {
         String name = "Promise 8, 'Returns the lender', who sleeps: ";
         AlmsKernel x = Scenes.sleepingLender();
@@ -165,6 +185,19 @@ public final class OtherStatesTest {
         Checks.due(name + "holder(1)", x.holder(1), 1);
         Checks.due(name + "it sleeps on", x.stateOf(1), ASLEEP);
         Checks.purses("Promise 8: it costs nothing", x, 16, 1, 15);
+    }
+
+    private static void promise8ToOneWithNothing() {
+        String name = "Promise 8, 'Returns the lender', who has nothing: ";
+        AlmsKernel x = Scenes.afterLoans(0);
+        Scenes.bringPurse(x, 0, 8);
+        x.buy(0);
+        Checks.due("scene: the loan", Scenes.fetch(x, 1, 0), 0);
+        Checks.due(name + "at the rate 0", x.payBack(0), 0);
+        Checks.due("scene: another loan", Scenes.fetch(x, 1, 0), 0);
+        x.setRate(9);
+        Checks.due(name + "at the rate 9", x.payBack(1), 0);
+        Checks.purses(name + "nobody pays", x, 0, 20);
     }
 
     private static void promise8OfOneWithNothing() {
